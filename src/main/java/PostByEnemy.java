@@ -478,7 +478,7 @@ public final class PostByEnemy {
         if (what < 0 || what > 1) {
             return refuse(OTHER);
         }
-        return what == 0 ? thought.kindsAsTold(now, parcel, person, told) : thought.figuresAsTold(now, parcel, person, told);
+        return thought.fitting(now, parcel, person, what == 1, told);
     }
 
     public int row(int v) {
@@ -778,13 +778,14 @@ public final class PostByEnemy {
             }
             int hate = feelings[one * MOST_PEOPLE + other];
             int figure = figures[one];
+            int ahead = places[one] - places[other];
             int rivals = hate > 0 ? hate + figure : 0;
             switch (kinds[one]) {
                 case SAINT: return hate / 2;
                 case RIVAL: return rivals;
                 case BULLY: return 2 * rivals;
                 case LOVER: return hate / 2 + figure;
-                case COWARD: return Math.abs(places[one] - places[other]) >= FEARED_APART ? 0 : 2 * rivals;
+                case COWARD: return ahead >= FEARED_APART || ahead <= -FEARED_APART ? 0 : 2 * rivals;
                 default: return hate;
             }
         }
@@ -1082,7 +1083,8 @@ public final class PostByEnemy {
 
         int bestSlight(Duchy now, int parcel) {
             int to = now.receiverOf(parcel);
-            int fewest = daysTillBrought(behind(now, 0), parcel, LAST_THOUGHT);
+            mind.become(now);
+            int fewest = daysTillBrought(mind, parcel, LAST_THOUGHT);
             int best = NONE;
             for (int other = 0; other < now.people; other++) {
                 if (other == to) {
@@ -1101,7 +1103,8 @@ public final class PostByEnemy {
 
         int worstPeace(Duchy now, int parcel) {
             int to = now.receiverOf(parcel);
-            int most = daysTillBrought(behind(now, 0), parcel, LAST_THOUGHT);
+            mind.become(now);
+            int most = daysTillBrought(mind, parcel, LAST_THOUGHT);
             int worst = NONE;
             for (int other = 0; other < now.people; other++) {
                 if (other == to) {
@@ -1135,7 +1138,7 @@ public final class PostByEnemy {
 
         /**
          * The receiver slights those whom the way's digits (by the number of people) name. The order of slights
-         * changes nothing, so that only ways with falling digits are taken; false of the others and of himself.
+         * changes nothing: a way whose digits are not in order is left out (false), as is one that names himself.
          */
         private boolean slightAll(int way, int many, int to) {
             int base = Math.max(1, mind.people);
@@ -1172,7 +1175,7 @@ public final class PostByEnemy {
             return asksWhen ? dayOrNone(soonest) : best;
         }
 
-        /** A choice is 2 times what the first does and what the other does (1: he SLIGHTS). */
+        /** A choice is 2 times what the first does, and what the other does (1: he SLIGHTS). */
         int court(Duchy now, int first, int other, int n) {
             for (int choice = 0; choice < CHOICES; choice++) {
                 mind.become(now);
@@ -1204,7 +1207,7 @@ public final class PostByEnemy {
             return many;
         }
 
-        /** Of the t to the n-th equally likely runs of days those by which the parcel is BROUGHT; a sky's bits are snow. */
+        /** How many of the t to the n-th equally likely runs of days bring the parcel; a sky's bits are the days of snow. */
         long broughtOfAll(Duchy now, int parcel, int n, int t) {
             long runs = 0;
             for (int sky = 0; sky < (1 << n); sky++) {
@@ -1222,25 +1225,19 @@ public final class PostByEnemy {
             return runs;
         }
 
-        int kindsAsTold(Duchy now, int parcel, int person, Row told) {
+        /** The KINDS or FIGURES (bits) of the person by which the ROW tells who carries the parcel. */
+        int fitting(Duchy now, int parcel, int person, boolean asksFigures, Row told) {
             int bits = 0;
-            for (int kind = 0; kind < KINDS && now.hasPerson(person); kind++) {
+            int many = asksFigures ? MOST_FIGURE + 1 : KINDS;
+            for (int value = 0; value < many && now.hasPerson(person); value++) {
                 mind.become(now);
-                mind.kinds[person] = kind;
-                if (goesAsTold(parcel, told)) {
-                    bits |= 1 << kind;
+                if (asksFigures) {
+                    mind.figures[person] = value;
+                } else {
+                    mind.kinds[person] = value;
                 }
-            }
-            return bits;
-        }
-
-        int figuresAsTold(Duchy now, int parcel, int person, Row told) {
-            int bits = 0;
-            for (int figure = 0; figure <= MOST_FIGURE && now.hasPerson(person); figure++) {
-                mind.become(now);
-                mind.figures[person] = figure;
                 if (goesAsTold(parcel, told)) {
-                    bits |= 1 << figure;
+                    bits |= 1 << value;
                 }
             }
             return bits;

@@ -1,0 +1,196 @@
+import java.lang.reflect.InvocationTargetException;
+import java.lang.reflect.Method;
+import java.lang.reflect.Modifier;
+import java.util.ArrayList;
+import java.util.Arrays;
+import java.util.Comparator;
+import java.util.List;
+import java.util.Random;
+
+/** Many runs of drawn calls (always the same ones): the program answers as the slow model does, and never throws. */
+public final class ModelTest {
+    private static final int RUNS = 400;
+    private static final int CALLS = 400;
+    private static final int[] EDGES = {-2147483648, -1000, -10, -9, -3, -2, -1, 0, 1, 2, 3, 4, 5, 6, 7, 8, 9, 10, 11, 15,
+        16, 17, 19, 20, 21, 29, 30, 31, 59, 60, 61, 95, 96, 97, 98, 99, 100, 101, 255, 256, 999, 1000, 2147483647};
+    private static final String KINDS = "psrblc";
+
+    private static final List<Method> calls = new ArrayList<>();
+    private static int wrong = 0;
+
+    public static void main(String[] args) throws Exception {
+        for (Method method : PostByEnemy.class.getDeclaredMethods()) {
+            if (Modifier.isPublic(method.getModifiers())) {
+                calls.add(method);
+            }
+        }
+        calls.sort(Comparator.comparing(Method::getName));
+        for (int seed = 0; seed < RUNS && wrong < 10; seed++) {
+            new ModelTest(seed).run();
+        }
+        if (wrong != 0) {
+            System.exit(1);
+        }
+    }
+
+    private final Random random;
+    private final int seed;
+    private final PostByEnemy post = new PostByEnemy();
+    private final Model model = new Model();
+    private final StringBuilder told = new StringBuilder();
+
+    private ModelTest(int seed) {
+        this.seed = seed;
+        this.random = new Random(seed);
+    }
+
+    private void run() throws Exception {
+        int made = 0;
+        while (made < CALLS) {
+            if (made == 0 && seed % 4 != 0 || random.nextInt(25) == 0) {
+                made += tell(text());
+            } else {
+                Method method = calls.get(random.nextInt(calls.size()));
+                Integer[] values = new Integer[method.getParameterCount()];
+                for (int i = 0; i < values.length; i++) {
+                    values[i] = value(method.getName(), i);
+                }
+                if (!isAsDue(method, values)) {
+                    return;
+                }
+                made++;
+            }
+        }
+    }
+
+    private int tell(String text) throws Exception {
+        for (char c : text.toCharArray()) {
+            isAsDue(PostByEnemy.class.getMethod("letter", int.class), new Integer[] {(int) c});
+        }
+        isAsDue(PostByEnemy.class.getMethod("duchy"), new Integer[0]);
+        return text.length() + 1;
+    }
+
+    private boolean isAsDue(Method method, Integer[] values) throws Exception {
+        told.append(' ').append(method.getName()).append(Arrays.toString(values));
+        Method due = Model.class.getDeclaredMethod(method.getName(), method.getParameterTypes());
+        Number want = (Number) due.invoke(model, (Object[]) values);
+        Number got = null;
+        try {
+            got = (Number) method.invoke(post, (Object[]) values);
+        } catch (InvocationTargetException thrown) {
+            System.out.println("thrown: " + thrown.getCause());
+        }
+        if (!want.equals(got)) {
+            wrong++;
+            System.out.println("run " + seed + ":" + told + " answered " + got + ", due is " + want);
+        }
+        return want.equals(got);
+    }
+
+    private int value(String name, int place) {
+        int chance = random.nextInt(40);
+        if (chance == 0) {
+            return EDGES[random.nextInt(EDGES.length)];
+        }
+        if (chance == 1) {
+            return random.nextInt(13) - 2;
+        }
+        return usual(name, place);
+    }
+
+    /** A number that the call mostly takes. */
+    private int usual(String name, int place) {
+        switch (name + place) {
+            case "letter0":
+                return random.nextInt(256);
+            case "person1":
+            case "turn1":
+                return random.nextInt(6);
+            case "parcel1":
+                return random.nextInt(5);
+            case "posts1":
+            case "turn2":
+                return random.nextInt(10);
+            case "hates2":
+                return random.nextInt(random.nextBoolean() ? 100 : 12);
+            case "moves1":
+                return random.nextInt(31);
+            case "days0":
+                return 1 + random.nextInt(random.nextInt(4) == 0 ? 60 : 5);
+            case "parcelThen1":
+            case "hateThen2":
+            case "gotThen0":
+                return random.nextInt(100);
+            case "gotThen1":
+                return random.nextInt(6) - 1;
+            case "cost1":
+            case "two2":
+                return 1 + random.nextInt(random.nextBoolean() ? 60 : 15);
+            case "snow1":
+                return random.nextInt(8);
+            case "snow2":
+                return 2 + random.nextInt(19);
+            case "row0":
+                return random.nextInt(3) == 0 ? 9 : random.nextInt(6);
+            case "lots0":
+                return 1 + random.nextInt(20);
+            case "lots1":
+                return random.nextInt();
+            case "count0":
+                return random.nextInt(18);
+            case "first0":
+            case "fair0":
+                return random.nextInt(3);
+            default:
+                return isSwitch(name, place) ? random.nextInt(2) : random.nextInt(4);
+        }
+    }
+
+    private static boolean isSwitch(String name, int place) {
+        return List.of("parcelThen2", "enemy1", "busiest0", "ring1", "post1", "snow3", "mean0", "who2", "lots2")
+            .contains(name + place);
+    }
+
+    private String text() {
+        StringBuilder text = new StringBuilder();
+        int people = random.nextInt(6);
+        for (int i = 0; i < people; i++) {
+            text.append('p').append(KINDS.charAt(random.nextInt(6))).append(random.nextInt(10));
+            twoDigits(text, random.nextInt(random.nextInt(20) == 0 ? 40 : 31));
+        }
+        for (int i = random.nextInt(9); i > 0; i--) {
+            switch (random.nextInt(8)) {
+                case 0:
+                    text.append('s').append(random.nextInt(4)).append(random.nextInt(4)).append(';');
+                    break;
+                case 1:
+                    text.append('m').append(random.nextInt(4)).append(random.nextInt(4)).append(';');
+                    break;
+                case 2:
+                    text.append('d');
+                    twoDigits(text, random.nextInt(20) == 0 ? random.nextInt(100) : 1 + random.nextInt(4));
+                    break;
+                case 3:
+                case 4:
+                    text.append('c').append(random.nextInt(4)).append(random.nextInt(10)).append(';');
+                    break;
+                default:
+                    text.append('h').append(random.nextInt(4)).append(random.nextInt(4));
+                    twoDigits(text, random.nextInt(100));
+                    break;
+            }
+        }
+        if (text.length() > 0 && random.nextInt(8) == 0) {
+            text.setCharAt(random.nextInt(text.length()), (char) (random.nextBoolean() ? ';' : random.nextInt(128)));
+        }
+        if (random.nextInt(8) == 0) {
+            text.setLength(random.nextInt(text.length() + 1));
+        }
+        return text.toString();
+    }
+
+    private static void twoDigits(StringBuilder text, int v) {
+        text.append(v / 10).append(v % 10).append(';');
+    }
+}
