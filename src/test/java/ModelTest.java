@@ -15,13 +15,19 @@ public final class ModelTest {
         16, 17, 19, 20, 21, 29, 30, 31, 59, 60, 61, 95, 96, 97, 98, 99, 100, 101, 255, 256, 999, 1000, 2147483647};
     private static final String KINDS = "psrblc";
 
+    /** They need a duchy in which much is going on, so that they are called more often than others. */
+    private static final List<String> THOUGHTS = List.of("slight", "cost", "makeUp", "post", "two", "snow", "who",
+        "when", "first", "parcelThen", "hateThen", "gotThen", "enemy", "ring", "lots", "on");
+
     private static final List<Method> calls = new ArrayList<>();
     private static int wrong = 0;
 
     public static void main(String[] args) throws Exception {
         for (Method method : PostByEnemy.class.getDeclaredMethods()) {
             if (Modifier.isPublic(method.getModifiers())) {
-                calls.add(method);
+                for (int i = THOUGHTS.contains(method.getName()) ? 4 : 1; i > 0; i--) {
+                    calls.add(method);
+                }
             }
         }
         calls.sort(Comparator.comparing(Method::getName));
@@ -47,7 +53,11 @@ public final class ModelTest {
     private void run() throws Exception {
         int made = 0;
         while (made < CALLS) {
-            if (made == 0 && seed % 4 != 0 || random.nextInt(25) == 0) {
+            if (made == 0 && seed % 8 != 0) {
+                made += tell(text());
+                made += tell(text());
+                isAsDue(PostByEnemy.class.getMethod("image"), new Integer[0]);
+            } else if (random.nextInt(60) == 0) {
                 made += tell(text());
             } else {
                 Method method = calls.get(random.nextInt(calls.size()));
@@ -117,7 +127,7 @@ public final class ModelTest {
             case "moves1":
                 return random.nextInt(31);
             case "days0":
-                return 1 + random.nextInt(random.nextInt(4) == 0 ? 60 : 5);
+                return 1 + random.nextInt(random.nextInt(8) == 0 ? 60 : 5);
             case "parcelThen1":
             case "hateThen2":
             case "gotThen0":
@@ -154,32 +164,14 @@ public final class ModelTest {
 
     private String text() {
         StringBuilder text = new StringBuilder();
-        int people = random.nextInt(6);
+        int people = model.count(0) < 3 ? 2 + random.nextInt(3) : random.nextInt(2);
         for (int i = 0; i < people; i++) {
             text.append('p').append(KINDS.charAt(random.nextInt(6))).append(random.nextInt(10));
-            twoDigits(text, random.nextInt(random.nextInt(20) == 0 ? 40 : 31));
+            twoDigits(text, random.nextInt(random.nextInt(40) == 0 ? 40 : 31));
         }
-        for (int i = random.nextInt(9); i > 0; i--) {
-            switch (random.nextInt(8)) {
-                case 0:
-                    text.append('s').append(random.nextInt(4)).append(random.nextInt(4)).append(';');
-                    break;
-                case 1:
-                    text.append('m').append(random.nextInt(4)).append(random.nextInt(4)).append(';');
-                    break;
-                case 2:
-                    text.append('d');
-                    twoDigits(text, random.nextInt(20) == 0 ? random.nextInt(100) : 1 + random.nextInt(4));
-                    break;
-                case 3:
-                case 4:
-                    text.append('c').append(random.nextInt(4)).append(random.nextInt(10)).append(';');
-                    break;
-                default:
-                    text.append('h').append(random.nextInt(4)).append(random.nextInt(4));
-                    twoDigits(text, random.nextInt(100));
-                    break;
-            }
+        int most = Math.max(1, Math.min(6, model.count(0) + people));
+        for (int i = random.nextInt(10); i > 0; i--) {
+            statement(text, most);
         }
         if (text.length() > 0 && random.nextInt(8) == 0) {
             text.setCharAt(random.nextInt(text.length()), (char) (random.nextBoolean() ? ';' : random.nextInt(128)));
@@ -188,6 +180,31 @@ public final class ModelTest {
             text.setLength(random.nextInt(text.length() + 1));
         }
         return text.toString();
+    }
+
+    private void statement(StringBuilder text, int people) {
+        int one = random.nextInt(people);
+        int other = random.nextInt(12) == 0 ? one : (one + 1 + random.nextInt(Math.max(1, people - 1))) % people;
+        switch (random.nextInt(10)) {
+            case 0:
+                text.append('s').append(one).append(other).append(';');
+                break;
+            case 1:
+                text.append('m').append(one).append(other).append(';');
+                break;
+            case 2:
+                text.append('d');
+                twoDigits(text, random.nextInt(20) == 0 ? random.nextInt(100) : 1 + random.nextInt(4));
+                break;
+            case 3:
+            case 4:
+                text.append('c').append(one).append(random.nextInt(10)).append(';');
+                break;
+            default:
+                text.append('h').append(one).append(other);
+                twoDigits(text, random.nextInt(random.nextBoolean() ? 100 : 12));
+                break;
+        }
     }
 
     private static void twoDigits(StringBuilder text, int v) {
