@@ -89,7 +89,7 @@ public final class PostByEnemy {
         int statements = 0;
         int place = 0;
         while (misfit < 0 && place < text.size && text.tell(place, mind)) {
-            place += text.lengthAt(place);
+            place += Math.max(1, text.lengthAt(place));
             statements++;
         }
         boolean isWhole = place >= text.size;
@@ -973,7 +973,7 @@ public final class PostByEnemy {
             return letter == sign && sign != NO_SIGN;
         }
 
-        /** How long the statement at the place is: 1 at least. */
+        /** How long the statement at the place is. */
         int lengthAt(int place) {
             return formOf(letterAt(place)).length();
         }
@@ -988,7 +988,7 @@ public final class PostByEnemy {
                         return place + i;
                     }
                 }
-                place += form.length();
+                place += Math.max(1, form.length());
             } while (place < size);
             return -1;
         }

@@ -9,7 +9,7 @@ import java.util.Random;
 
 /** Many runs of drawn calls (always the same ones): the program answers as the slow model does, and never throws. */
 public final class ModelTest {
-    private static final int RUNS = 400;
+    private static final int RUNS = 1000;
     private static final int CALLS = 400;
     private static final int[] EDGES = {-2147483648, -1000, -10, -9, -3, -2, -1, 0, 1, 2, 3, 4, 5, 6, 7, 8, 9, 10, 11, 15,
         16, 17, 19, 20, 21, 29, 30, 31, 59, 60, 61, 95, 96, 97, 98, 99, 100, 101, 255, 256, 999, 1000, 2147483647};
@@ -56,9 +56,11 @@ public final class ModelTest {
             if (made == 0 && seed % 8 != 0) {
                 made += tell(text());
                 made += tell(text());
-                isAsDue(PostByEnemy.class.getMethod("image"), new Integer[0]);
+                made += call("image");
             } else if (random.nextInt(60) == 0) {
                 made += tell(text());
+            } else if (random.nextInt(30) == 0) {
+                made += tellRow();
             } else {
                 Method method = calls.get(random.nextInt(calls.size()));
                 Integer[] values = new Integer[method.getParameterCount()];
@@ -75,10 +77,37 @@ public final class ModelTest {
 
     private int tell(String text) throws Exception {
         for (char c : text.toCharArray()) {
-            isAsDue(PostByEnemy.class.getMethod("letter", int.class), new Integer[] {(int) c});
+            call("letter", c);
         }
-        isAsDue(PostByEnemy.class.getMethod("duchy"), new Integer[0]);
-        return text.length() + 1;
+        return text.length() + call("duchy");
+    }
+
+    private int call(String name, int... values) throws Exception {
+        Class<?>[] types = Arrays.stream(values).mapToObj(v -> int.class).toArray(Class<?>[]::new);
+        isAsDue(PostByEnemy.class.getMethod(name, types), Arrays.stream(values).boxed().toArray(Integer[]::new));
+        return 1;
+    }
+
+    /** A ROW that is so, or nearly, and the calls that go by it. */
+    private int tellRow() throws Exception {
+        int made = call("clear");
+        int size = random.nextInt(13);
+        if (model.count(1) > 0 && random.nextInt(3) > 0) {
+            int parcel = random.nextInt(model.count(1));
+            for (int days = 0; days < size; days++) {
+                int by = model.parcelThen(parcel, days, 1);
+                made += call("row", by < 0 ? 9 : by);
+            }
+            for (int person = 0; person < model.count(0); person++) {
+                made += call("who", parcel, person, 0) + call("who", parcel, person, 1);
+            }
+            return made;
+        }
+        for (int person = 0; person < model.count(0); person++) {
+            int enemy = model.enemy(person, 0);
+            made += call("row", random.nextInt(12) == 0 ? random.nextInt(10) : enemy < 0 ? 9 : enemy);
+        }
+        return made + call("judge");
     }
 
     private boolean isAsDue(Method method, Integer[] values) throws Exception {
