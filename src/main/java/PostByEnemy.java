@@ -217,9 +217,8 @@ public final class PostByEnemy {
         if (n > MOST_DAYS || now.date + n > MOST_DATE) {
             return refuse(ROOM);
         }
-        int before = now.brought();
         now.passDays(n);
-        return now.brought() - before;
+        return now.brought();
     }
 
     public int parcelThen(int parcel, int n, int what) {

@@ -475,10 +475,8 @@ final class Model {
         if (n > 60 || w.day + n > 999) {
             return no(-6);
         }
-        World then = w.on(n);
-        int many = then.brought() - w.brought();
-        w = then;
-        return many;
+        w = w.on(n);
+        return w.brought();
     }
 
     int parcelThen(int parcel, int n, int what) {
