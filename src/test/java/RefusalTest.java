@@ -356,16 +356,16 @@ public final class RefusalTest {
         }
     }
 
-    /** PARCEL 0 WAITS (nobody hates 2), 1 is BROUGHT, 2 on its way; each REFUSAL there was already. */
+    /** PARCEL 0 WAITS (nobody hates 2), 1 is BROUGHT, 2 on its way. The ROWs tell the ENEMIES that there are. */
     private void setMidway() throws Exception {
         tell("pp005;ps310;pr720;pb402;h0140;h1033;c24;c13;d07;");
         ask("image");
         ask("posts", 0, 9);
         ask("days", 2);
+        refuseEach();
         letters("pp0x");
         ask("row", 1);
         ask("row", 0);
-        refuseEach();
     }
 
     /** At first 7 and then 8 PARCELS that WAIT, DAY 999, 96 letters, 16 numbers; the image has 7. */
@@ -381,8 +381,8 @@ public final class RefusalTest {
         ask("hates", 5, 4, 98);
         ask("hates", 0, 5, 97);
         letters("pp000;h0110;".repeat(8));
-        for (int v = 0; v < 16; v++) {
-            ask("row", v % 2 == 0 ? 9 : v);
+        for (int person = 0; person < 16; person++) {
+            ask("row", person == 0 ? 1 : person == 4 ? 5 : person == 5 ? 0 : 9);
         }
     }
 
@@ -390,11 +390,11 @@ public final class RefusalTest {
     private void setNearlyFull() throws Exception {
         tell("pp000;pp000;pp000;pp000;pp000;h1099;c00;c00;c00;c00;c00;c10;c20;");
         tell("d60;d60;d60;d60;d60;d60;d60;d60;d60;d60;d60;d60;d60;d60;d60;d39;");
+        refuseEach();
         letters("pp000;h0110;".repeat(8).substring(0, 95));
-        for (int v = 0; v < 15; v++) {
+        for (int person = 0; person < 15; person++) {
             ask("row", 9);
         }
-        refuseEach();
     }
 
     private void refuseEach() throws Exception {
@@ -431,6 +431,9 @@ public final class RefusalTest {
         }
         if (!test.refusals().equals(refusalsOf(scene))) {
             say(scene + ": the refusals are not as they must be: " + test.refusals());
+        }
+        if (test.ask("judge") != (scene.told > scene.people ? scene.people : -9)) {
+            say(scene + ": the ROW does not tell the ENEMIES that there are");
         }
     }
 
