@@ -1,7 +1,11 @@
 import java.io.IOException;
 import java.nio.file.Files;
 import java.nio.file.Path;
+import java.util.Arrays;
+import java.util.HashMap;
+import java.util.Map;
 import java.util.Set;
+import java.util.TreeSet;
 import java.util.regex.Matcher;
 import java.util.regex.Pattern;
 
@@ -16,6 +20,10 @@ public final class LanguageTest {
         "Thought");
     private static final int MOST_LINES = 60;
     private static final int MOST_PARAMETERS = 7;
+    private static final int MOST_DEEP = 8;
+    private static final int MOST_CLASSES = 12;
+    private static final int MOST_FIELDS = 20;
+    private static final Pattern HEAD = Pattern.compile("^( +)(?:[\\w\\[\\]]+ )+(\\w+)\\(([^)]*)\\) \\{$");
 
     private static int wrong = 0;
 
@@ -25,6 +33,8 @@ public final class LanguageTest {
         checkSigns(source);
         checkWords(code);
         checkMethods(code);
+        checkDepth(calledBy(code.split("\n", -1)));
+        checkClasses(code.split("\n", -1));
         if (wrong != 0) {
             System.exit(1);
         }
@@ -82,27 +92,108 @@ public final class LanguageTest {
 
     private static void checkMethods(String code) {
         String[] lines = code.split("\n", -1);
-        Pattern head = Pattern.compile("^( +)(?:[\\w\\[\\]]+ )+\\w+\\(([^)]*)\\) \\{$");
         int methods = 0;
         for (int i = 0; i < lines.length; i++) {
-            Matcher found = head.matcher(lines[i]);
+            Matcher found = HEAD.matcher(lines[i]);
             if (!found.matches() || lines[i].trim().startsWith("else")) {
                 continue;
             }
             methods++;
-            int end = i;
-            while (!lines[end].equals(found.group(1) + "}")) {
-                end++;
-            }
+            int end = endOf(lines, i, found.group(1));
             if (end - i > MOST_LINES) {
                 say("a method of " + (end - i) + " lines: " + lines[i].trim());
             }
-            if (found.group(2).split(",").length > MOST_PARAMETERS) {
+            if (found.group(3).split(",").length > MOST_PARAMETERS) {
                 say("too many parameters: " + lines[i].trim());
             }
         }
         if (methods < 41) {
             say("only " + methods + " methods were looked at");
+        }
+    }
+
+    private static int endOf(String[] lines, int start, String indent) {
+        int end = start;
+        while (!lines[end].equals(indent + "}")) {
+            end++;
+        }
+        return end;
+    }
+
+    /** Which methods each one calls, by their names alone: those of one name in two classes are taken as one. */
+    private static Map<String, Set<String>> calledBy(String[] lines) {
+        Map<String, String> bodies = new HashMap<>();
+        for (int i = 0; i < lines.length; i++) {
+            Matcher found = HEAD.matcher(lines[i]);
+            if (found.matches() && !lines[i].trim().startsWith("else")) {
+                String body = String.join("\n", Arrays.copyOfRange(lines, i + 1, endOf(lines, i, found.group(1))));
+                bodies.merge(found.group(2), body, String::concat);
+            }
+        }
+        Map<String, Set<String>> called = new HashMap<>();
+        for (Map.Entry<String, String> method : bodies.entrySet()) {
+            Set<String> names = new TreeSet<>();
+            // "(?<!Math[.])": max and its like are the library's.
+            Matcher call = Pattern.compile("(?<!Math[.])\\b(\\w+)\\(").matcher(method.getValue());
+            while (call.find()) {
+                if (bodies.containsKey(call.group(1))) {
+                    names.add(call.group(1));
+                }
+            }
+            called.put(method.getKey(), names);
+        }
+        return called;
+    }
+
+    private static void checkDepth(Map<String, Set<String>> called) {
+        int most = 0;
+        for (String name : called.keySet()) {
+            most = Math.max(most, depthOf(name, called, new TreeSet<>()));
+        }
+        if (most > MOST_DEEP) {
+            say("calls go " + most + " deep");
+        }
+        if (most < 3) {
+            say("the calls were not found: only " + most + " deep");
+        }
+    }
+
+    private static int depthOf(String name, Map<String, Set<String>> called, Set<String> open) {
+        if (!open.add(name)) {
+            say("a method that comes to call itself: " + name);
+            return 0;
+        }
+        int most = 0;
+        for (String next : called.get(name)) {
+            most = Math.max(most, depthOf(next, called, open));
+        }
+        open.remove(name);
+        return most + 1;
+    }
+
+    private static void checkClasses(String[] lines) {
+        Pattern head = Pattern.compile("^( *)(?:\\w+ )*(?:class|record|enum|interface) (\\w+).*\\{$");
+        Map<String, Integer> fields = new HashMap<>();
+        String inside = "";
+        String indent = "";
+        for (String line : lines) {
+            Matcher found = head.matcher(line);
+            if (found.matches()) {
+                indent = found.group(1) + "    ";
+                inside = found.group(2);
+                fields.put(inside, 0);
+            }
+            if (line.matches("^" + indent + "(?:private )?(?:final )?[\\w\\[\\]]+ \\w+(?: = .*)?;$")) {
+                fields.merge(inside, 1, Integer::sum);
+            }
+        }
+        if (fields.size() > MOST_CLASSES) {
+            say(fields.size() + " classes");
+        }
+        for (Map.Entry<String, Integer> some : fields.entrySet()) {
+            if (some.getValue() > MOST_FIELDS || some.getValue() == 0) {
+                say(some.getKey() + " has " + some.getValue() + " fields");
+            }
         }
     }
 }

@@ -7,10 +7,15 @@ import java.util.Comparator;
 import java.util.List;
 import java.util.Random;
 
-/** Many runs of drawn calls (always the same ones): the program answers as the slow model does, and never throws. */
+/**
+ * Many runs of drawn calls (always the same ones): the program answers as the slow model does, from the first call to
+ * the 512th, and never throws. Two objects are called by turns, so that neither may know of the other.
+ */
 public final class ModelTest {
     private static final int RUNS = 1000;
-    private static final int CALLS = 400;
+    private static final int CALLS = 512;
+    /** A text, or a ROW and what is asked of it, takes fewer calls. */
+    private static final int MOST_AT_ONCE = 100;
     private static final int[] EDGES = {-2147483648, -1000, -10, -9, -3, -2, -1, 0, 1, 2, 3, 4, 5, 6, 7, 8, 9, 10, 11, 15,
         16, 17, 19, 20, 21, 29, 30, 31, 59, 60, 61, 95, 96, 97, 98, 99, 100, 101, 255, 256, 999, 1000, 2147483647};
     private static final String KINDS = "psrblc";
@@ -31,8 +36,13 @@ public final class ModelTest {
             }
         }
         calls.sort(Comparator.comparing(Method::getName));
-        for (int seed = 0; seed < RUNS && wrong < 10; seed++) {
-            new ModelTest(seed).run();
+        for (int seed = 0; seed < RUNS && wrong < 10; seed += 2) {
+            ModelTest one = new ModelTest(seed);
+            ModelTest other = new ModelTest(seed + 1);
+            while (one.isGoingOn() || other.isGoingOn()) {
+                one.goOn();
+                other.goOn();
+            }
         }
         if (wrong != 0) {
             System.exit(1);
@@ -44,73 +54,81 @@ public final class ModelTest {
     private final PostByEnemy post = new PostByEnemy();
     private final Model model = new Model();
     private final StringBuilder told = new StringBuilder();
+    private int made = 0;
+    private boolean isWrong = false;
 
     private ModelTest(int seed) {
         this.seed = seed;
         this.random = new Random(seed);
     }
 
-    private void run() throws Exception {
-        int made = 0;
-        while (made < CALLS) {
-            if (made == 0 && seed % 8 != 0) {
-                made += tell(text());
-                made += tell(text());
-                made += call("image");
-            } else if (random.nextInt(60) == 0) {
-                made += tell(text());
-            } else if (random.nextInt(30) == 0) {
-                made += tellRow();
-            } else {
-                Method method = calls.get(random.nextInt(calls.size()));
-                Integer[] values = new Integer[method.getParameterCount()];
-                for (int i = 0; i < values.length; i++) {
-                    values[i] = value(method.getName(), i);
-                }
-                if (!isAsDue(method, values)) {
-                    return;
-                }
-                made++;
+    private boolean isGoingOn() {
+        return made < CALLS && !isWrong;
+    }
+
+    private void goOn() throws Exception {
+        if (!isGoingOn()) {
+            return;
+        }
+        boolean hasRoom = made + MOST_AT_ONCE <= CALLS;
+        if (made == 0 && seed % 8 != 0) {
+            tell(text());
+            tell(text());
+            call("image");
+        } else if (hasRoom && random.nextInt(60) == 0) {
+            tell(text());
+        } else if (hasRoom && random.nextInt(30) == 0) {
+            tellRow();
+        } else {
+            Method method = calls.get(random.nextInt(calls.size()));
+            Integer[] values = new Integer[method.getParameterCount()];
+            for (int i = 0; i < values.length; i++) {
+                values[i] = value(method.getName(), i);
             }
+            check(method, values);
         }
     }
 
-    private int tell(String text) throws Exception {
+    private void tell(String text) throws Exception {
         for (char c : text.toCharArray()) {
             call("letter", c);
         }
-        return text.length() + call("duchy");
+        call("duchy");
     }
 
-    private int call(String name, int... values) throws Exception {
+    private void call(String name, int... values) throws Exception {
         Class<?>[] types = Arrays.stream(values).mapToObj(v -> int.class).toArray(Class<?>[]::new);
-        isAsDue(PostByEnemy.class.getMethod(name, types), Arrays.stream(values).boxed().toArray(Integer[]::new));
-        return 1;
+        check(PostByEnemy.class.getMethod(name, types), Arrays.stream(values).boxed().toArray(Integer[]::new));
     }
 
     /** A ROW that is so, or nearly, and the calls that go by it. */
-    private int tellRow() throws Exception {
-        int made = call("clear");
+    private void tellRow() throws Exception {
+        call("clear");
         int size = random.nextInt(13);
         if (model.count(1) > 0 && random.nextInt(3) > 0) {
             int parcel = random.nextInt(model.count(1));
             for (int days = 0; days < size; days++) {
                 int by = model.parcelThen(parcel, days, 1);
-                made += call("row", by < 0 ? 9 : by);
+                call("row", by < 0 ? 9 : by);
             }
             for (int person = 0; person < model.count(0); person++) {
-                made += call("who", parcel, person, 0) + call("who", parcel, person, 1);
+                call("who", parcel, person, 0);
+                call("who", parcel, person, 1);
             }
-            return made;
+            return;
         }
         for (int person = 0; person < model.count(0); person++) {
             int enemy = model.enemy(person, 0);
-            made += call("row", random.nextInt(12) == 0 ? random.nextInt(10) : enemy < 0 ? 9 : enemy);
+            call("row", random.nextInt(12) == 0 ? random.nextInt(10) : enemy < 0 ? 9 : enemy);
         }
-        return made + call("judge");
+        call("judge");
     }
 
-    private boolean isAsDue(Method method, Integer[] values) throws Exception {
+    private void check(Method method, Integer[] values) throws Exception {
+        if (made >= CALLS || isWrong) {
+            return;
+        }
+        made++;
         told.append(' ').append(method.getName()).append(Arrays.toString(values));
         Method due = Model.class.getDeclaredMethod(method.getName(), method.getParameterTypes());
         Number want = (Number) due.invoke(model, (Object[]) values);
@@ -122,9 +140,9 @@ public final class ModelTest {
         }
         if (!want.equals(got)) {
             wrong++;
+            isWrong = true;
             System.out.println("run " + seed + ":" + told + " answered " + got + ", due is " + want);
         }
-        return want.equals(got);
     }
 
     private int value(String name, int place) {
